@@ -93,7 +93,7 @@ public final class OrdersInTurn {
             case 2:
                 return table.holders[dish];
             case 3:
-                return table.urgeOf(dish);
+                return dish == table.urged ? table.much : 0;
             default:
                 return OUTSIDE;
         }
@@ -130,7 +130,7 @@ public final class OrdersInTurn {
             case 3:
                 return table.ordered[guest];
             case 4:
-                return party.seats[guest].sway(menu.loath);
+                return party.seats[guest].swayByLoath * menu.loath;
             case 5:
                 return table.joyOf(guest);
             default:
@@ -495,17 +495,15 @@ public final class OrdersInTurn {
         final int[] wants = new int[MOST_DISHES];
         int kind;
         int purse;
+        int swayByLoath;
 
         void sitDown(int newKind, int newPurse) {
             kind = newKind;
             purse = newPurse;
+            swayByLoath = SWAYS[newKind];
             for (int d = 0; d < MOST_DISHES; d++) {
                 wants[d] = 0;
             }
-        }
-
-        int sway(int loath) {
-            return SWAYS[kind] * loath;
         }
 
         boolean isOfKind(int other) {
@@ -576,10 +574,6 @@ public final class OrdersInTurn {
             much = howMuch;
         }
 
-        int urgeOf(int dish) {
-            return dish == urged ? much : 0;
-        }
-
         boolean canHave(int guest, int dish) {
             return left[dish] > 0 && menu.price[dish] <= party.seats[guest].purse;
         }
@@ -588,7 +582,8 @@ public final class OrdersInTurn {
         int value(int guest, int dish) {
             Guest one = party.seats[guest];
             int ahead = has[guest] == dish ? holders[dish] - 1 : holders[dish];
-            return one.wants[dish] + one.sway(loath) * ahead + urgeOf(dish);
+            int urge = dish == urged ? much : 0;
+            return one.wants[dish] + one.swayByLoath * loath * ahead + urge;
         }
 
         int choice(int guest) {
@@ -840,8 +835,8 @@ public final class OrdersInTurn {
         }
 
         /**
-         * Dish by dish, each to a group of guests, instead of guest by guest: far fewer steps, since
-         * who else has had which of the dishes before does not matter.
+         * Dish by dish, each to a group of guests, instead of guest by guest: far fewer steps, since of the
+         * dishes before only who has one of them matters, not which.
          */
         int mostGiven() {
             int groups = 1 << party.size;
@@ -852,8 +847,8 @@ public final class OrdersInTurn {
                 findJoyOfGroups(d);
                 // from the largest group down: a smaller one must still be as before this dish
                 for (int group = groups - 1; group > 0; group--) {
-                    for (int part = group; part > 0; part = (part - 1) & group) {
-                        if (joyOfGroup[part] != NONE) {
+                    for (int part = 1; part <= group; part++) {
+                        if ((part & group) == part && joyOfGroup[part] != NONE) {
                             int joy = bestOfGroup[group ^ part] + joyOfGroup[part];
                             bestOfGroup[group] = Math.max(bestOfGroup[group], joy);
                         }
@@ -903,7 +898,7 @@ public final class OrdersInTurn {
             return true;
         }
 
-        /** Each urge is tried from 0 on: more urge need not sell more, since an early taker may put others off. */
+        /** Each urge is tried from 0 on: more need not sell more, since an early taker may put others off. */
         int leastUrge(int dish, int first, int times) {
             for (int much = 0; much <= MOST_URGE; much++) {
                 setUp();

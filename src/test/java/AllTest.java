@@ -2,6 +2,7 @@
 public final class AllTest {
     public static void main(String[] args) {
         image();
+        imageOfEvenings();
         imageRefused();
         counts();
         digest();
@@ -40,6 +41,22 @@ public final class AllTest {
         x.forget();
         x.evening(1, 1, 0);
         x.evening(2, 1, 0);
+    }
+
+    private static void imageOfEvenings() {
+        OrdersInTurn x = Checks.threeGuests();
+        x.evening(0, 1, 1);
+        x.evening(1, 2, 0);
+        Checks.due("LOATH 3 to 7", x.fits(0), 248);
+        x.image();
+        x.forget();
+        x.evening(2, 2, 1);
+        x.evening(2, 1, 1);
+        x.evening(2, 2, 1);
+        Checks.due("no LOATH", x.fits(0), 0);
+        Checks.due("restore() of evenings", x.restore(), 0);
+        Checks.due("two of them", x.count(5), 2);
+        Checks.due("LOATH 3 to 7 again", x.fits(0), 248);
     }
 
     private static void imageRefused() {

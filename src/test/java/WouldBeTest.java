@@ -8,6 +8,7 @@ public final class WouldBeTest {
         atOnceTwentyTimes();
         minds();
         mindsEdges();
+        fewerDishes();
         host();
         fewest();
         urges();
@@ -92,6 +93,9 @@ public final class WouldBeTest {
         x = Checks.withCard("91,91;5");
         Checks.sit(x, 3, 9, "00");
         Checks.sit(x, 4, 9, "09");
+        Checks.due("both follow: both have one", x.atOnce(0), 2);
+        x = Checks.withCard("91,91;5");
+        Checks.sit(x, 0, 9, "77");
         Checks.due("like value is no reason to leave", x.atOnce(0), 2);
     }
 
@@ -152,6 +156,40 @@ public final class WouldBeTest {
         Checks.sit(x, 0, 1, "90");
         Checks.sit(x, 1, 9, "09");
         Checks.due("who had none takes what is given back", x.minds(0), 2);
+        x = Checks.withCard("12,53,53,33,32;6");
+        Checks.sit(x, 2, 3, "45840");
+        Checks.sit(x, 4, 2, "48092");
+        Checks.sit(x, 3, 8, "88061");
+        Checks.sit(x, 0, 7, "86873");
+        Checks.sit(x, 3, 3, "82383");
+        x.urge(2, 3);
+        Checks.due("just in 20 rounds", x.minds(0), 20);
+        x = Checks.withCard("22,31,21,51,44;9");
+        Checks.sit(x, 0, 3, "00919");
+        Checks.sit(x, 4, 1, "40116");
+        Checks.sit(x, 2, 7, "49959");
+        Checks.sit(x, 3, 7, "72843");
+        Checks.sit(x, 2, 7, "14832");
+        Checks.due("21 rounds are too many", x.minds(0), Checks.NONE);
+    }
+
+    /** Six dishes stood on the card before: nothing of the last four may be seen behind another card. */
+    private static void fewerDishes() {
+        OrdersInTurn x = Checks.withCard("91,91,91,91,91,91;1");
+        for (int g = 0; g < 5; g++) {
+            Checks.sit(x, 0, 9, "999999");
+        }
+        Checks.due("five have five", x.inTurn(0, 4), 4);
+        Checks.write(x, "11,11;9");
+        x.card();
+        for (int g = 0; g < 3; g++) {
+            Checks.sit(x, 0, 9, "11");
+        }
+        Checks.due("the third one has none", x.inTurn(0, 2), Checks.NONE);
+        Checks.due("no way for three", x.atOnce(0), 0);
+        Checks.due("two of three have 1", x.host(), 2);
+        Checks.due("nobody wants one by 5", x.fewest(0), Checks.NONE);
+        Checks.due("no third dish", x.want(0, 2, 1), Checks.UNKNOWN);
     }
 
     private static void host() {
