@@ -36,7 +36,9 @@ public final class AllTest {
         x.order(0);
         x.want(2, 1, 9);
         x.want(0, 0, 3);
+        x.purse(0, 2);
         x.purse(1, 1);
+        x.purse(2, 3);
         x.urge(0, 3);
         x.forget();
         x.evening(1, 1, 0);
@@ -113,6 +115,13 @@ public final class AllTest {
         long[] noGuests = {2, 1, 0, 0, 1, 4, 0, 5, 0, 0, 0, 1023, '7', 2, 3, 0, 0, 0, 0, 1, 1, 0};
         Checks.due("digest() without guests", x.digest(), folded(noGuests));
         Checks.sit(x, 2, 3, "69");
+        long[] oneGuest = {
+            2, 1, 0, 0, 1, 4, 0, 5,
+            2, 3, -1, 0, -6, 0, 6, 9, 1,
+            6, 1, 1, 1023,
+            0, 6,
+            '7', 2, 3, 1, 0, 0, 0, 1, 1, 0};
+        Checks.due("digest() with one guest", x.digest(), folded(oneGuest));
         x.order(0);
         Checks.sit(x, 4, 4, "05");
         x.evening(1, 1, 1);
