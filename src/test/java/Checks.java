@@ -4,8 +4,25 @@ final class Checks {
 
     private static int passed = 0;
     private static int failed = 0;
+    private static String sentence = "";
+    private static int passedBefore = 0;
 
     private Checks() {
+    }
+
+    /** The sentence of the document that the answers from here on belong to, with its promise's number. */
+    static void says(String promise, String words) {
+        endSentence();
+        sentence = promise + ", \"" + words + "\": ";
+        passedBefore = passed;
+    }
+
+    /** A sentence behind which nothing was compared would pass unseen. */
+    private static void endSentence() {
+        if (!sentence.isEmpty() && passed == passedBefore) {
+            failed++;
+            System.out.println(sentence + "no answer was as due");
+        }
     }
 
     static void due(String call, long got, long want) {
@@ -13,7 +30,7 @@ final class Checks {
             passed++;
         } else {
             failed++;
-            System.out.println(call + " answered " + got + ", due is " + want);
+            System.out.println(sentence + call + " answered " + got + ", due is " + want);
         }
     }
 
@@ -23,6 +40,7 @@ final class Checks {
 
     /** Prints the counts and ends the program, with exit code 1 if an answer was wrong. */
     static void close(String test) {
+        endSentence();
         System.out.println(test + ": " + passed + " answers as due, " + failed + " not");
         System.exit(failed == 0 && passed > 0 ? 0 : 1);
     }
