@@ -11,6 +11,7 @@ public final class AllBoundsTest {
         promise28GuestsCame();
         promise28RefusedSince();
         promise28WhatIsKept();
+        promise28EveningsToldAnew();
         promise28WhatIsNot();
         promise29Outside();
         promise29AtTheirEnds();
@@ -172,6 +173,43 @@ public final class AllBoundsTest {
         Checks.due("digest() once more", x.digest(), before);
     }
 
+    private static void promise28EveningsToldAnew() {
+        Checks.says("Promise 28, section 3", "An IMAGE keeps .. EVENINGS");
+        OrdersInTurn x = Checks.threeGuests();
+        x.evening(0, 1, 1);
+        x.evening(1, 2, 0);
+        Checks.due("LOATH 3 to 7", x.fits(0), 248);
+        x.image();
+        x.forget();
+        x.evening(2, 1, 0);
+        x.evening(2, 2, 0);
+        x.evening(2, 0, Checks.NONE);
+        Checks.due("no LOATH", x.fits(0), 0);
+        x.restore();
+        Checks.due("two of them", x.count(5), 2);
+        Checks.due("LOATH 3 to 7 again", x.fits(0), 248);
+        Checks.due("a third one", x.evening(0, 0, 0), 3);
+        x.restore();
+        x.forget();
+        x.evening(0, 1, 1);
+        x.image();
+        x.forget();
+        x.evening(1, 1, 1);
+        Checks.due("another first one: no LOATH", x.fits(0), 0);
+        x.restore();
+        Checks.due("the first one again: 3 or more", x.fits(0), 1016);
+        x.forget();
+        x.evening(0, 0, 1);
+        Checks.due("another guest: no LOATH", x.fits(0), 0);
+        x.restore();
+        Checks.due("the guest again: 3 or more", x.fits(0), 1016);
+        x.forget();
+        x.evening(0, 1, 0);
+        Checks.due("another dish: 0 to 2", x.fits(0), 7);
+        x.restore();
+        Checks.due("the dish again: 3 or more", x.fits(0), 1016);
+    }
+
     private static void promise28WhatIsNot() {
         Checks.says("Promise 28, section 3", "(nor the page, nor how often atOnce() was done)");
         OrdersInTurn x = Checks.threeGuests();
@@ -238,6 +276,11 @@ public final class AllBoundsTest {
         digestIs("no card", Scenes::noCard, "21,3");
         digestIs("a full page", Scenes::fullPage, "21,34,56;7890123456789");
         digestIs("no guests", Scenes::noGuests, "21,1");
+        digestIs("one guest", () -> {
+            OrdersInTurn x = Scenes.noGuests();
+            Checks.sit(x, 3, 4, "719");
+            return x;
+        }, "21,1");
         digestIs("three guests", Scenes::busy, "21,1");
         digestIs("all full", Scenes::crowded, "11,11,11,11,11,11;3123");
         digestIs("codes 1 and 126", () -> {

@@ -25,6 +25,7 @@ public final class GuestsBoundsTest {
         promise13Purse();
         promise13Left();
         promise13LikeOnes();
+        promise13Sway();
         promise13None();
         promise13HeOrdered();
         promise14();
@@ -341,6 +342,30 @@ public final class GuestsBoundsTest {
         x.order(1);
         Checks.due("like ones below 0", x.takes(2), 0);
         Checks.due("one more, below 0", x.takes(3), 1);
+    }
+
+    private static void promise13Sway() {
+        Checks.says("Promise 13, Terms", "SWAY for each who has it ahead of him");
+        int[] times = {-1, 0, -2, 1, 2};
+        for (int kind = 0; kind < 5; kind++) {
+            for (int loath = 0; loath <= 9; loath++) {
+                for (int ahead = 0; ahead <= 4; ahead++) {
+                    int sway = times[kind] * loath * ahead;
+                    String what = "kind " + kind + ", LOATH " + loath + ", " + ahead + " ahead";
+                    Checks.due(what + ", 9 against 3", takenBehind(ahead, kind, loath, "93"), 9 + sway >= 3 ? 0 : 1);
+                    Checks.due(what + ", 0 against 6", takenBehind(ahead, kind, loath, "06"), sway >= 6 ? 0 : 1);
+                }
+            }
+        }
+    }
+
+    private static int takenBehind(int ahead, int kind, int loath, String wants) {
+        OrdersInTurn x = Checks.withCard("91,91;" + loath);
+        for (int g = 0; g < ahead; g++) {
+            Checks.sit(x, 1, 9, "90");
+            x.order(g);
+        }
+        return x.takes(Checks.sit(x, kind, 9, wants));
     }
 
     private static int takenBy(String wants) {

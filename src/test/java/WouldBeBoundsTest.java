@@ -366,6 +366,7 @@ public final class WouldBeBoundsTest {
             x.order(0);
             Checks.due(left + " of 0, one ordered", x.host(), 9 * Math.min(left, 5));
         }
+        Checks.due("one guest", alike("11,11;0", 0, 1, "48").host(), 8);
         Checks.due("two for five, the others none", alike("11,11;0", 0, 5, "97").host(), 16);
         Checks.due("all that can be", alike("91,91,91,91,91,91;9", 2, 5, "000009").host(), 45);
         Checks.due("one of each of six", alike("11,11,11,11,11,11;9", 2, 5, "456789").host(), 35);
@@ -430,6 +431,10 @@ public final class WouldBeBoundsTest {
 
     private static void promise21LikeOnes() {
         Checks.says("Promise 21, section 2", "which: of like ones the least");
+        OrdersInTurn fewer = Checks.withCard("11,11,11;0");
+        Checks.sit(fewer, 0, 1, "505");
+        Checks.sit(fewer, 0, 1, "055");
+        fewestIs("one, though two are less as bits", fewer, 1, 4);
         fewestIs("all are like", alike("11,11,11,11,11,11;0", 0, 5, "999999"), 1, 1);
         fewestIs("the last two are", alike("11,11,11,11,11,11;0", 0, 5, "444455"), 1, 16);
         OrdersInTurn x = Checks.withCard("11,11,11,11;0");
