@@ -6,7 +6,7 @@ import java.util.function.ToIntFunction;
 /**
  * Two objects laid alike, of which only one gets a call: if the call changed nothing, both answer alike from
  * then on. What is kept out of sight (the image, the page's letters, the dish that is urged) shows by calls that
- * change something, so these come last. A look takes some 220 calls; a table must be laid in less than 250.
+ * change something, so these come last. A look takes 180 calls; a table must be laid in less than 250.
  */
 final class Twins {
     private static final int MOST_CALLS = 512 - 250;
